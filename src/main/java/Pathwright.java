@@ -1029,7 +1029,8 @@ public final class Pathwright {
     if (how == WRAPPED) {
       return bits == 16 ? (short) n : (int) n;
     }
-    return Math.max(leastOfBits(bits), Math.min(greatestOfBits(bits), n));
+    long most = bits == 16 ? GREATEST_SHORT : GREATEST_INT;
+    return Math.max(-most - 1, Math.min(most, n));
   }
 
   /** The exact value; what goes in has 32 digits at most but for = and <, so a long holds it. */
@@ -1301,7 +1302,8 @@ public final class Pathwright {
         long n = reckoned(letter, leasts[x], leasts[y]);
         return intern(NUMBER, 0, 0, 0, n, n);
       }
-      int small = letter == '=' || letter == '<' ? smallComparison(letter, x, y) : small(letter, x, y);
+      boolean compares = letter == '=' || letter == '<';
+      int small = compares ? smallComparison(letter, x, y) : small(letter, x, y);
       if (small == TERM_0 || small == TERM_1) {
         long n = small == TERM_0 ? 0 : 1;
         return intern(NUMBER, 0, 0, 0, n, n);
@@ -1932,6 +1934,7 @@ public final class Pathwright {
     private Algebra algebra;
     private Trace trace;
     private Trace guide;
+    private int how;
     private int at;
 
     /** The guide tells the sides of forks whose terms are no numbers. */
@@ -1940,6 +1943,7 @@ public final class Pathwright {
       algebra = with;
       trace = into;
       guide = guidedBy;
+      how = program.manner == 's' ? CUT : WRAPPED;
       at = 0;
       trace.begin();
       memory.begin(algebra.ofNumber(0));
@@ -1964,35 +1968,23 @@ public final class Pathwright {
       return true;
     }
 
-    /** Does a statement by which something becomes a number; all others it hands on. */
     void perform() {
       int letter = program.parts[0][at];
       int x = program.parts[1][at];
       int y = program.parts[2][at];
       int z = program.parts[3][at];
       switch (letter) {
-        case 'k':
-        case 'i':
-        case 'f':
-        case '=':
-        case '<':
+        case 'k': case 'i': case 'f': case '=': case '<':
           put(x, told(letter, y, z));
           break;
-        case '/':
-        case '%':
+        case '/': case '%':
           if (fork('z', variable(z))) {
             become(x, told(letter, y, z));
           } else {
             stop('z');
           }
           break;
-        case 'm':
-        case '+':
-        case '-':
-        case '*':
-        case '&':
-        case '|':
-        case '^':
+        case 'm': case '+': case '-': case '*': case '&': case '|': case '^':
           become(x, told(letter, y, z));
           break;
         case 'g':
@@ -2003,6 +1995,9 @@ public final class Pathwright {
           break;
         case 'p':
           storeField(x * FIELDS + y, variable(z));
+          break;
+        case 'x':
+          enterBody(y, variable(z));
           break;
         case 'v':
           long given = variable(x);
@@ -2019,12 +2014,12 @@ public final class Pathwright {
           }
           break;
         default:
-          performOther(letter, x, y, z);
+          performOther(letter, x, y);
           break;
       }
     }
 
-    private void performOther(int letter, int x, int y, int z) {
+    private void performOther(int letter, int x, int y) {
       switch (letter) {
         case 'r':
           System.arraycopy(memory.fields, y * FIELDS, memory.fields, x * FIELDS, FIELDS);
@@ -2049,9 +2044,6 @@ public final class Pathwright {
           break;
         case 'w':
           loop(variable(x));
-          break;
-        case 'x':
-          enterBody(y, variable(z));
           break;
         default:
           at = program.closers[at] + 1;
@@ -2112,10 +2104,6 @@ public final class Pathwright {
       pass();
     }
 
-    private long cut(long term, int bits) {
-      return algebra.ofNarrowed(program.manner == 's' ? CUT : WRAPPED, bits, term);
-    }
-
     private void become(int v, long term) {
       int bits = v < FIRST_WIDE ? 16 : 32;
       if (program.manner == 't') {
@@ -2125,7 +2113,7 @@ public final class Pathwright {
           return;
         }
       }
-      put(v, cut(term, bits));
+      put(v, algebra.ofNarrowed(how, bits, term));
     }
 
     private void storeField(int field, long term) {
@@ -2133,7 +2121,7 @@ public final class Pathwright {
         stop('o');
         return;
       }
-      memory.fields[field] = cut(term, 16);
+      memory.fields[field] = algebra.ofNarrowed(how, 16, term);
       pass();
     }
 
@@ -2161,7 +2149,7 @@ public final class Pathwright {
         stop('o');
         return;
       }
-      long element = cut(term, 16);
+      long element = algebra.ofNarrowed(how, 16, term);
       for (int k = 0; k <= last; k++) {
         long isHere = algebra.ofLetter('=', place, algebra.ofNumber(k));
         memory.elements[k] = algebra.ofChoice(isHere, element, memory.elements[k]);
@@ -2230,7 +2218,7 @@ public final class Pathwright {
         return;
       }
       trace.done |= bit(at);
-      memory.enter(at, algebra.ofNumber(0), cut(term, 16));
+      memory.enter(at, algebra.ofNumber(0), algebra.ofNarrowed(how, 16, term));
       at = program.bodies[function] + 1;
     }
 
