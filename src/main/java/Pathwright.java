@@ -2193,7 +2193,7 @@ public final class Pathwright {
       at++;
     }
 
-    /** The rounds begin at 0 again when a w is left, so they count since it was come to from ahead. */
+    /** The rounds go back to 0 when a w is left: they count since it was come to from ahead. */
     private void loop(long condition) {
       int[] rounds = memory.rounds[memory.depth];
       if (!fork('w', condition)) {

@@ -3,6 +3,7 @@ import java.lang.management.ManagementFactory;
 /** The longest walks and the most terms, beside the oracle; and how much a long run makes. */
 public final class LimitsTest {
   private static int wrong;
+  private static boolean isThrough;
 
   // Five blocks of ? in two rounds of w: the most choices a step that sides meeting again make.
   private static final String DEEP =
@@ -29,8 +30,9 @@ public final class LimitsTest {
     Thread thread = new Thread(null, LimitsTest::all, "limits", 1L << 28);
     thread.start();
     thread.join();
-    System.out.println(wrong == 0 ? "all limits hold" : wrong + " answers are wrong");
-    System.exit(wrong == 0 ? 0 : 1);
+    boolean isGood = isThrough && wrong == 0;
+    System.out.println(isGood ? "all limits hold" : wrong + " answers are wrong");
+    System.exit(isGood ? 0 : 1);
   }
 
   private static void all() {
@@ -42,7 +44,35 @@ public final class LimitsTest {
         }
       }
     }
+    termsAgain();
     room();
+    isThrough = true;
+  }
+
+  /** Terms are made, and taken away, and made again: their places are used again. */
+  private static void termsAgain() {
+    Pathwright x = new Pathwright();
+    for (int round = 0; round < 500; round++) {
+      x.number(round);
+      x.input(round % 4);
+      for (int n = 2; n < 24; n++) {
+        x.make('-', n - 1, n - 2);
+      }
+      Oracle o = new Oracle();
+      o.number(round);
+      o.input(round % 4);
+      for (int n = 2; n < 24; n++) {
+        o.make('-', n - 1, n - 2);
+      }
+      eq("sign in round " + round, x.sign(23), o.sign(23));
+      eq("size in round " + round, x.size(23), o.size(23));
+      if (round % 2 == 0) {
+        eq("forget in round " + round, x.forget(), 24);
+      } else {
+        x.width(round % 4, round % 4 < 2 ? 2 : 1);
+        eq("left in round " + round, x.forget(), 1);
+      }
+    }
   }
 
   private static void eq(String what, long got, long due) {

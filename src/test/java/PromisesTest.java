@@ -431,6 +431,8 @@ public final class PromisesTest {
     reach("* both ways", -50, 70, '*', both, up);
     reach("* both below", -63, 45, '*', both, down);
     reach("* of squares", -35, 49, '*', both, both);
+    reach("* both up", 12, 63, '*', new int[] {3, 2}, new int[] {4, 1});
+    reach("* both down", 25, 88, '*', new int[] {-11, 2}, new int[] {-8, 1});
     reach("/ both up", 0, 10, '/', up, new int[] {0, 2});
     reach("/ down", -9, 9, '/', down, up);
     reach("/ by down", -10, 10, '/', up, down);
@@ -463,6 +465,7 @@ public final class PromisesTest {
     eq("16: of an input", x.reach(2, 'g'), 3);
     x.make('%', 2, 0);
     eq("16: % of 0", x.reach(3, 'g'), 0);
+    reachesOfNought();
     x.choose(2, 1, 2);
     eq("16: of a choice", x.reach(4, 'l'), -7);
     eq("16: of a choice", x.reach(4, 'g'), 3);
@@ -477,6 +480,28 @@ public final class PromisesTest {
     eq("16: of 32 digits", x.reach(9, 'g'), MAX);
     raises("16: no term", INDEX, x, () -> x.reach(10, 'x'));
     raises("16: no end", ARGUMENT, x, () -> x.reach(0, 'x'));
+  }
+
+  /** An input of no width is no number, but its reach is 0 alone. */
+  private static void reachesOfNought() {
+    Pathwright x = fresh();
+    x.width(0, 0);
+    x.width(3, 0);
+    x.input(0);
+    x.input(3);
+    x.input(1);
+    x.number(-2);
+    x.make('+', 2, 3);
+    x.make('%', 4, 0);
+    x.make('|', 0, 1);
+    x.make('^', 2, 1);
+    eq("16: % of 0, below", x.reach(5, 'l'), 0);
+    eq("16: % of 0, above", x.reach(5, 'g'), 0);
+    eq("15: but no number", x.sign(5), let('%', let('+', in(1), num(-2)), in(0)));
+    eq("16: | of 0", x.reach(6, 'g'), 0);
+    eq("16: ^ of 0", x.reach(7, 'g'), 3);
+    eq("10: = of both", x.sign(x.make('=', 0, 1)), let('=', in(0), in(3)));
+    eq("10: < of both", x.sign(x.make('<', 0, 1)), num(0));
   }
 
   private static void termsAsked() {
@@ -926,6 +951,8 @@ public final class PromisesTest {
     puts("? in ?", with("i0,0;i1,1;?0;?1;k2,1;:;k2,2;.;:;?1;k2,3;:;k2,4;.;.;o2;"), 4, 3);
     puts("w", with("i0,0;k1,1;w0;-0,0,1;+2,2,1;.;o2;"), 3, 3);
     puts("w in w", with("k0,3;k1,1;w0;-0,0,1;k2,2;w2;-2,2,1;+3,3,1;.;.;o3;"), 0, 6);
+    puts("the same w begins anew", with("k1,1;k0,3;w0;-0,0,1;k2,6;w2;-2,2,1;+3,3,1;.;.;o3;"), 0,
+        18);
     puts("a w that ends begins anew", with("k1,1;k0,6;w0;-0,0,1;.;k0,6;w0;-0,0,1;.;o1;"), 0, 1);
     Pathwright x = with("o0;".repeat(12) + "k0,1;o0;o0;");
     eq("40: at most 12", x.outputs(0, 0), 12);
@@ -1348,10 +1375,32 @@ public final class PromisesTest {
     eq("44: by rounds alone", z.paths(0), 4);
     long one = pick(a, num(1), num(0));
     eq("51: round by round", z.outputSign(0, 2, 0), pick(a, let('+', one, num(1)), one));
+    mergeEach();
     Pathwright f = with("d0;?0;k1,3;.;v1;.;i0,0;x2,0,0;o2;");
     f.merge(0, true);
     eq("44: in a call", f.paths(0), 1);
     eq("51: in a call", f.outputSign(0, 0, 0), pick(a, num(3), num(0)));
+  }
+
+  /** Each variable and field is merged, from what it was ahead of the block. */
+  private static void mergeEach() {
+    long a = in(0);
+    for (int v = 1; v < 8; v++) {
+      Pathwright x = with("i0,0;kV,9;?0;kV,5;:;+V,V,0;.;oV;".replace("V", "" + v));
+      x.merge(0, true);
+      eq("51: variable " + v, x.outputSign(0, 0, 0),
+          pick(a, num(5), let('+', num(9), a)));
+    }
+    for (int f = 0; f < 6; f++) {
+      String field = f / 3 + "," + f % 3;
+      Pathwright x = with("i0,0;i1,1;k2,9;k3,5;p" + field + ",2;?0;?1;k4,1;.;p" + field + ",3;:;f4,"
+          + field + ";+4,4,0;p" + field + ",4;.;f5," + field + ";o5;o4;");
+      x.merge(0, true);
+      long less = let('+', num(9), a);
+      eq("51: field " + field, x.outputSign(0, 0, 0), pick(a, num(5), less));
+      eq("51: with field " + field, x.outputSign(0, 0, 1),
+          pick(a, pick(in(1), num(1), num(0)), less));
+    }
   }
 
   // ---- promises 53 to 62
@@ -1380,6 +1429,12 @@ public final class PromisesTest {
     raises("53: not whole", STATE, x, () -> x.goals(0));
     raises("54: not whole", STATE, x, () -> x.reaching(0, 0, 0));
     eq("53: of nothing", x.goals(1), 0);
+    Pathwright y = with("i0,0;i1,1;i2,2;i3,3;|0,0,1;|0,0,2;|0,0,3;?0;:;o0;.;");
+    eq("53: one that the row 0 covers alone", y.goals(0), 10);
+    eq("54: by the row 0", y.reaching(0, 9, 1), 0);
+    Pathwright z = with("i0,0;i1,1;i2,2;i3,3;*1,1,0;*2,2,3;k4,9;=1,1,4;&1,1,2;?1;o1;.;");
+    eq("53: one that the last row covers alone", z.goals(0), 12);
+    eq("54: by the last row", z.reaching(0, 10, 1), 63);
   }
 
   private static void goalsKept() {
@@ -1502,6 +1557,11 @@ public final class PromisesTest {
       w.width(k, 0);
     }
     eq("60: one row alone", put(w, 0, "o0;").fuzz(0, 40, 5), 1);
+    w.width(2, 1);
+    w.unkeep();
+    w.clear(0);
+    put(w, 0, "i0,2;a0;");
+    eq("60: two rows", w.fuzz(0, 40, 5), 2);
   }
 
   /** One round from a kept row, reckoned here once more. */
@@ -1548,6 +1608,12 @@ public final class PromisesTest {
     eq("61: half", y.shrink(0, 11), 5);
     eq("61: one less", y.shrink(0, 9), 5);
     eq("61: 0", y.shrink(0, 4), 0);
+    y.clear(0);
+    put(y, 0, "i0,0;k1,4;=2,0,1;k1,7;=3,0,1;|2,2,3;k1,8;=3,0,1;|2,2,3;a2;");
+    eq("61: half ahead of one less", y.shrink(0, 8), 4);
+    eq("61: neither", y.shrink(0, 7), 7);
+    y.set(0, 1, 1, 0);
+    eq("61: 0 ahead of one less", y.shrink(0, 8), 0);
     Pathwright w = with("i0,0;i1,1;?0;a0;:;a1;.;");
     eq("61: by another way to the same end", w.shrink(0, 0b0_0_01_10), 0b0_0_01_00);
     Pathwright v = with("i0,0;i1,1;=2,0,1;a2;");

@@ -32,13 +32,14 @@ public final class RandomRunsTest {
 
   public static void main(String[] args) throws Exception {
     long first = args.length > 0 ? Long.parseLong(args[0]) : 1;
-    int runs = args.length > 1 ? Integer.parseInt(args[1]) : 250;
-    int[] wrong = {0};
+    int runs = args.length > 1 ? Integer.parseInt(args[1]) : 500;
+    int[] wrong = {-1};
     // The oracle goes down terms by recursion, and they can be thousands of levels deep.
     Thread thread = new Thread(null, () -> wrong[0] = runAll(first, runs), "runs", 1L << 28);
     thread.start();
     thread.join();
     System.out.println(runs + " runs, " + wrong[0] + " wrong");
+    // -1 is left if the thread itself ended by an exception.
     System.exit(wrong[0] == 0 ? 0 : 1);
   }
 
@@ -276,7 +277,8 @@ public final class RandomRunsTest {
     int paths = n > 0 && Oracle.faultOf(theirs.progs[p]) < 0 ? theirs.paths(p) : 1;
     int terms = theirs.terms.size();
     int path = below(paths);
-    boolean isPath = paths > 1 && path >= 0 && path < paths && "condition conditionSign holds outputSign outputValue".contains(name);
+    boolean isAsked = "condition conditionSign holds outputSign outputValue".contains(name);
+    boolean isPath = isAsked && paths > 1 && path >= 0 && path < paths;
     int conditions = isPath ? theirs.termWalk(p, path).conditions.size() : 1;
     int outs = isPath ? theirs.termWalk(p, path).outs.size() : 2;
     switch (name) {
