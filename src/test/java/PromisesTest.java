@@ -1393,7 +1393,7 @@ public final class PromisesTest {
     }
     for (int f = 0; f < 6; f++) {
       String field = f / 3 + "," + f % 3;
-      Pathwright x = with("i0,0;i1,1;k2,9;k3,5;p" + field + ",2;?0;?1;k4,1;.;p" + field + ",3;:;f4,"
+      Pathwright x = with("i0,0;i1,1;k2,9;k3,5;p" + field + ",2;?0;p" + field + ",3;?1;k4,1;.;:;f4,"
           + field + ";+4,4,0;p" + field + ",4;.;f5," + field + ";o5;o4;");
       x.merge(0, true);
       long less = let('+', num(9), a);
