@@ -1,22 +1,5 @@
-import java.util.NoSuchElementException;
-
 /** For each promise of the document: ordinary answers, its edges, and wrong arguments. */
-public final class PromisesTest {
-  private static final long Q = 1000003L;
-  private static final Class<?> INDEX = IndexOutOfBoundsException.class;
-  private static final Class<?> ARGUMENT = IllegalArgumentException.class;
-  private static final Class<?> STATE = IllegalStateException.class;
-  private static final Class<?> ELEMENT = NoSuchElementException.class;
-  private static final int MIN = Integer.MIN_VALUE;
-  private static final int MAX = Integer.MAX_VALUE;
-
-  private static int wrong;
-  private static int asked;
-
-  private interface Call {
-    void make() throws Exception;
-  }
-
+public final class PromisesTest extends Due {
   public static void main(String[] args) {
     inputs();
     termsMade();
@@ -47,116 +30,6 @@ public final class PromisesTest {
     theorem();
     System.out.println(asked + " answers, " + wrong + " wrong");
     System.exit(wrong == 0 ? 0 : 1);
-  }
-
-  // ---- helpers
-
-  private static void eq(String what, long got, long due) {
-    asked++;
-    if (got != due) {
-      wrong++;
-      System.out.println(what + " answered " + got + ", due is " + due);
-    }
-  }
-
-  private static void yes(String what, boolean got) {
-    eq(what, got ? 1 : 0, 1);
-  }
-
-  private static void no(String what, boolean got) {
-    eq(what, got ? 1 : 0, 0);
-  }
-
-  /** The call throws just this, thrown by the class itself, and changes nothing. */
-  private static void raises(String what, Class<?> due, Pathwright x, Call call) {
-    asked++;
-    long before = x.checksum();
-    Throwable got = null;
-    try {
-      call.make();
-    } catch (Exception e) {
-      got = e;
-    }
-    boolean isDue = got != null && got.getClass() == due
-        && got.getStackTrace()[0].getClassName().equals("Pathwright");
-    if (!isDue || x.checksum() != before) {
-      wrong++;
-      System.out.println(what + " threw " + got + ", due is " + due.getSimpleName()
-          + (x.checksum() == before ? "" : "; and it changed something"));
-    }
-  }
-
-  private static Pathwright fresh() {
-    return new Pathwright();
-  }
-
-  /** Puts statements, written as in a text, behind those of a program. */
-  private static Pathwright put(Pathwright x, int p, String text) {
-    for (String one : text.isEmpty() ? new String[0] : text.split(";")) {
-      String[] parts = one.substring(1).split(",");
-      int[] n = new int[3];
-      for (int i = 0; i < 3 && !one.substring(1).isEmpty() && i < parts.length; i++) {
-        n[i] = Integer.parseInt(parts[i]);
-      }
-      x.add(p, one.charAt(0), n[0], n[1], n[2]);
-    }
-    return x;
-  }
-
-  private static Pathwright with(String text) {
-    return put(fresh(), 0, text);
-  }
-
-  private static Pathwright way(char way, String text) {
-    Pathwright x = with(text);
-    x.way(0, way);
-    return x;
-  }
-
-  private static void typeAll(Pathwright x, String text) {
-    for (int i = 0; i < text.length(); i++) {
-      x.type(text.charAt(i), '#', '#', '#');
-    }
-  }
-
-  private static String textOf(Pathwright x, int p) {
-    StringBuilder text = new StringBuilder();
-    for (int i = 0; x.written(p, i) >= 0; i++) {
-      text.append((char) x.written(p, i));
-    }
-    return text.toString();
-  }
-
-  private static long num(long n) {
-    return n * Q + 1;
-  }
-
-  private static long in(int k) {
-    return k * Q + 2;
-  }
-
-  private static long let(char c, long x, long y) {
-    return ((c * Q + x) * Q + y) * Q + 3;
-  }
-
-  private static long pick(long c, long x, long y) {
-    return ((c * Q + x) * Q + y) * Q + 4;
-  }
-
-  private static long wrap(int bits, long x) {
-    return (x * Q + bits) * Q + 5;
-  }
-
-  private static long cut(int bits, long x) {
-    return (x * Q + bits) * Q + 6;
-  }
-
-  private static long sum(long... numbers) {
-    long h = 0;
-    for (long n : numbers) {
-      h = 31 * h + n;
-    }
-    return h;
   }
 
   // ---- promises 1 to 7
@@ -557,10 +430,6 @@ public final class PromisesTest {
   }
 
   // ---- promises 21 to 31
-
-  private static final String EVERY =
-      "k0,-5;i1,2;m2,3;+1,2,3;-1,2,3;*1,2,3;/1,2,3;%1,2,3;&1,2,3;|1,2,3;^1,2,3;=1,2,3;<1,2,3;"
-      + "g1,2;s1,2;f1,1,2;p1,2,3;r0,1;a1;o1;?1;w1;d1;x1,2,3;v1;:;.;";
 
   private static void programsBuilt() {
     Pathwright x = fresh();
@@ -1082,19 +951,8 @@ public final class PromisesTest {
     raises("39: not whole", STATE, x, () -> x.forks(0, 0));
   }
 
-  /** Which goals a walk covers: for each statement 1, 0, both (2) or none (-). */
   private static void covers(Pathwright x, String what, int row, String due) {
-    StringBuilder got = new StringBuilder();
-    for (int s = 0; s < x.count(0); s++) {
-      boolean isOne = x.goes(0, row, s, 1);
-      boolean isNought = x.goes(0, row, s, 0);
-      got.append(isOne && isNought ? '2' : isOne ? '1' : isNought ? '0' : '-');
-    }
-    asked++;
-    if (!got.toString().equals(due)) {
-      wrong++;
-      System.out.println("42: " + what + " covers " + got + ", due is " + due);
-    }
+    eq("42: " + what, covers(x, row), due);
   }
 
   private static void walksCover() {
