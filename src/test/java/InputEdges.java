@@ -280,6 +280,7 @@ final class InputEdges extends Edges {
     eq("the one that stays", reachOf(y, number), "6 to 6");
     y.number(9);
     y.number(10);
+    eq("the one that stays, with others made then", reachOf(y, number), "6 to 6");
     y.width(2, 1);
     eq("with others behind it", reachOf(y, y.input(2)), "0 to 1");
     Pathwright z = fresh();
