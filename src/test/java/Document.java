@@ -22,13 +22,26 @@ final class Document {
 
   final Map<String, Promise> promises = new LinkedHashMap<>();
 
+  /** Where the sentences stand that tell what all of it is. */
+  static final int WHAT_IT_IS = -1;
+
   /** The sentences of the parts are those of 0, the others those of promises. */
   final Map<Integer, List<String>> sentences = new LinkedHashMap<>();
 
+  /** What the interface says ahead of which calls. */
+  final Map<String, List<String>> calls = new LinkedHashMap<>();
+
   private Document() throws IOException {
     String text = Files.readString(FILE);
+    String first = text.substring(text.indexOf("## What it is") + 13);
+    sentences.put(WHAT_IT_IS, split(first.substring(0, first.indexOf("## "))));
     String parts = text.substring(text.indexOf("Part 1, "), text.indexOf("Ahead of the calls"));
     sentences.put(0, split(parts));
+    Matcher ahead = Pattern.compile("Ahead of the calls (.*) the interface says: (.*)\\.\n")
+        .matcher(text);
+    while (ahead.find()) {
+      calls.put(ahead.group(2), List.of(ahead.group(1).replace("`", "").split(", ")));
+    }
     Matcher promise = Pattern.compile("## Promise (\\d+): [^\n]*\n(.*?)(?=\n## )", Pattern.DOTALL)
         .matcher(text);
     while (promise.find()) {

@@ -5,7 +5,7 @@ import java.util.Set;
 
 /** Tests of sentences: each one is told by how it begins, and what follows is asked of it. */
 abstract class Edges extends Due {
-  private static final Document DOCUMENT = Document.read();
+  static final Document DOCUMENT = Document.read();
   private static final Set<String> TOLD = new LinkedHashSet<>();
   private static int askedBefore;
 
@@ -22,11 +22,9 @@ abstract class Edges extends Due {
     askedBefore = asked;
   }
 
-  /** Sentences that tell no edge: what a thing is called, or what other sentences tell in full. */
-  static void tellsNoEdge(int promise, String... starts) {
-    for (String start : starts) {
-      claim(promise, start);
-    }
+  /** The head of a part tells nothing that could be asked. */
+  static void isHeading(String start) {
+    claim(0, start);
   }
 
   private static void claim(int promise, String start) {

@@ -1,6 +1,7 @@
-/** For each sentence of the document that tells an edge, a test of its own; and none is left. */
+/** For each sentence of the document a test of its own; and none is left. */
 public final class EdgesTest extends Edges {
   public static void main(String[] args) {
+    AnswerEdges.all();
     InputEdges.all();
     TermEdges.all();
     ProgramEdges.all();

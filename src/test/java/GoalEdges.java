@@ -28,7 +28,7 @@ final class GoalEdges extends Edges {
   }
 
   static void all() {
-    tellsNoEdge(0, "Part 6, goals.");
+    isHeading("Part 6, goals.");
     rowsKept();
     suites();
     fuzzFirst();
@@ -420,8 +420,6 @@ final class GoalEdges extends Edges {
   }
 
   private static void goalsTold() {
-    tellsNoEdge(53, "Returns how many.");
-    tellsNoEdge(54, "Returns the least row that is let and covers a goal.");
     says(53, "Returns how many goals rows that are let cover.");
     eq("none", fresh().goals(0), 0);
     Pathwright x = wide(manyGoals());
@@ -451,9 +449,6 @@ final class GoalEdges extends Edges {
   }
 
   private static void keptTold() {
-    tellsNoEdge(55, "Returns how many are kept then.");
-    tellsNoEdge(57, "Returns the row.");
-    tellsNoEdge(58, "Returns how many.");
     says(55, "Keeps a row; it stays as it is if the row is kept.");
     Pathwright x = fresh();
     eq("the first row", x.keep(0), 1);
@@ -495,7 +490,6 @@ final class GoalEdges extends Edges {
   }
 
   private static void coverTold() {
-    tellsNoEdge(60, "Tries rows by chance, and keeps some.");
     says(59, "Keeps a suite of rows in place of those that are kept.");
     Pathwright x = with("i0,0;o0;");
     for (int row = 63; row > 47; row--) {
@@ -519,8 +513,6 @@ final class GoalEdges extends Edges {
   }
 
   private static void shrinkTold() {
-    tellsNoEdge(61, "Returns the row that it comes to.");
-    tellsNoEdge(62, "Returns the least row that is let by which the two programs");
     says(61, "Makes a row smaller; nothing changes.");
     Pathwright x = with("i0,0;i1,1;a0;");
     x.keep(63);
@@ -542,7 +534,6 @@ final class GoalEdges extends Edges {
   }
 
   private static void checksum() {
-    tellsNoEdge(63, "Returns a number that depends on all that is told.");
     says(63, "Returns h, 0 at first, then 31 h and a number, wrapped, for each of");
     Pathwright x = fresh();
     List<Long> due = new ArrayList<>();
@@ -618,8 +609,6 @@ final class GoalEdges extends Edges {
   }
 
   private static void theorem() {
-    tellsNoEdge(64, "Tries the theorem, (1), (2) and (3), on a program and a row");
-    tellsNoEdge(65, "Returns whether it is so.");
     says(64, "Returns whether all is so; true for a row that is not let.");
     Pathwright x = with("i0,0;i1,1;?0;k2,1;:;?1;k2,2;.;.;/3,1,2;g4,0;o3;w0;k5,1;-0,0,5;.;");
     yes("of nothing, the first row", x.isTrue(1, 0));

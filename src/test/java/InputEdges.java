@@ -1,7 +1,7 @@
 /** The edges of Part 1 and of the promises 1 to 7: inputs, widths, rows. */
 final class InputEdges extends Edges {
   static void all() {
-    tellsNoEdge(0, "Part 1, rows.");
+    isHeading("Part 1, rows.");
     fourInputs();
     numbersOfRows();
     rowsLet();
@@ -334,13 +334,11 @@ final class InputEdges extends Edges {
     Pathwright one = widths(0, 0, 0, 0);
     eq("of no width", one.part(0, 2), 0);
     raises("the row 1 of one", INDEX, one, () -> one.part(1, 2));
-    tellsNoEdge(6, "Returns the value.");
     says(7, "Tells whether a row is let.");
     yes("the only row", one.isLet(0));
     raises("there is no other", INDEX, one, () -> one.isLet(1));
     raises("behind the last", INDEX, x, () -> x.isLet(64));
     yes("the last that is let", x.isLet(61));
     no("the last of all", x.isLet(63));
-    tellsNoEdge(7, "Returns whether it is.");
   }
 }

@@ -78,6 +78,7 @@ public final class LanguageTest {
     test.classesAndFields();
     test.depth();
     test.letters();
+    test.sections();
     System.out.println(wrong == 0 ? "the language is kept" : wrong + " rules are broken");
     System.exit(wrong == 0 ? 0 : 1);
   }
@@ -357,6 +358,23 @@ public final class LanguageTest {
   private void letters() throws Exception {
     for (char letter : Files.readString(SOURCE).toCharArray()) {
       must(letter < 127, "3: the letter " + (int) letter);
+    }
+  }
+
+  /** Ahead of the calls stands what the interface says there, and they come in its order. */
+  private void sections() throws Exception {
+    String source = Files.readString(SOURCE);
+    int at = 0;
+    for (Map.Entry<String, List<String>> part : Document.read().calls.entrySet()) {
+      int head = source.indexOf("// ---- " + part.getKey() + "\n", at);
+      must(head >= at, "ahead of its calls stands: " + part.getKey());
+      at = Math.max(at, head);
+      for (String call : part.getValue()) {
+        Matcher next = Pattern.compile("\n  public \\w+ " + call + "\\(").matcher(source);
+        boolean isThere = next.find(at);
+        must(isThere, call + " stands below " + part.getKey() + ", in its order");
+        at = isThere ? next.start() : at;
+      }
     }
   }
 }

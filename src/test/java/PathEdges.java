@@ -4,7 +4,7 @@ final class PathEdges extends Edges {
   private static final long B = in(1);
 
   static void all() {
-    tellsNoEdge(0, "Part 5, paths.");
+    isHeading("Part 5, paths.");
     samePath();
     order();
     termsOfPaths();
@@ -399,13 +399,11 @@ final class PathEdges extends Edges {
     eq("for a row that is not let", y.outputValue(0, 0, 0, 3), 3);
     Pathwright z = way('t', "i0,0;k1,20000;*2,0,1;o2;");
     eq("by t of a row that is not within", z.outputValue(0, 0, 0, 2), 40000 - 65536);
-    tellsNoEdge(52, "Returns the value.");
     says(51, "Returns the sign of the term of an output.");
     eq("the first", x.outputSign(0, 0, 0), num(1));
     raises("-1", ELEMENT, x, () -> x.outputSign(0, 0, -1));
     raises("behind the last", ELEMENT, x, () -> x.outputSign(0, 0, 1));
     raises("of no path", ELEMENT, x, () -> x.outputSign(0, 1, 0));
-    tellsNoEdge(51, "Returns the sign.");
   }
 
   private static void pathsTold() {
@@ -432,14 +430,12 @@ final class PathEdges extends Edges {
       y.width(k, 0);
     }
     eq("one row is there", y.paths(0), 1);
-    tellsNoEdge(44, "Returns how many.");
     says(45, "Returns the number of the path, -1 if the row is not let.");
     Pathwright z = with("i0,0;a0;");
     z.fix(3, 1);
     eq("not let", z.path(0, 31), -1);
     eq("the first that is let", z.path(0, 32), 0);
     eq("the last", z.path(0, 63), 1);
-    tellsNoEdge(45, "Tells which path a row takes.");
   }
 
   private static void pathsTaken() {
@@ -462,8 +458,6 @@ final class PathEdges extends Edges {
     x.fix(0, 0);
     raises("one that is no more", ELEMENT, x, () -> x.taken(0, 1, 'f'));
     eq("n of those let", x.taken(0, 0, 'n'), 16);
-    tellsNoEdge(46, "Returns the number.");
-    tellsNoEdge(47, "Tells how a path ends.");
     says(47, "Returns the letter of the end.");
     String[] all = {"?0;o0;.;ee", "a0;ae", "k1,5;/2,1,0;ze", "w0;.;el", "v0;e", "k1,2;g2,0;eb"};
     for (String one : all) {
@@ -501,12 +495,10 @@ final class PathEdges extends Edges {
     raises("the path -1", ELEMENT, x, () -> x.condition(0, -1, 0, 's'));
     raises("behind the last path", ELEMENT, x, () -> x.condition(0, 3, 0, 's'));
     raises("a path of none", ELEMENT, x, () -> x.condition(1, 0, 0, 's'));
-    tellsNoEdge(48, "Returns the number.");
     says(49, "Returns the sign of the term of a condition.");
     eq("the last", x.conditionSign(0, 2, 1), A);
     raises("behind it", ELEMENT, x, () -> x.conditionSign(0, 2, 2));
     raises("ahead of the first", ELEMENT, x, () -> x.conditionSign(0, 2, -1));
-    tellsNoEdge(49, "Returns the sign.");
     says(50, "Returns whether its term is not 0 for the row, if it has the side 1");
     Pathwright y = with("i0,0;k1,1;-0,0,1;a0;");
     yes("-1, side 1", y.holds(0, 0, 0, 0));
@@ -515,6 +507,5 @@ final class PathEdges extends Edges {
     no("-1, side 0", y.holds(0, 1, 0, 0));
     yes("0, side 0", y.holds(0, 1, 0, 1));
     no("1, side 0", y.holds(0, 1, 0, 2));
-    tellsNoEdge(50, "Tells whether a condition holds for a row.");
   }
 }

@@ -4,7 +4,7 @@ import java.util.Set;
 /** The edges of programs and texts in Part 3, and of the promises 21 to 35. */
 final class ProgramEdges extends Edges {
   static void all() {
-    tellsNoEdge(0, "Part 3, programs.");
+    isHeading("Part 3, programs.");
     programs();
     numbersNotHad();
     whole();
@@ -466,8 +466,6 @@ final class ProgramEdges extends Edges {
   }
 
   private static void waysAndLimits() {
-    tellsNoEdge(30, "Gives a program a way.");
-    tellsNoEdge(31, "Gives a program a limit.");
     says(30, "Returns the way that it had.");
     Pathwright x = fresh();
     String ways = "wwstwtss";

@@ -9,11 +9,12 @@ import java.util.Random;
 
 /**
  * Runs of calls made up by seeds, each one on a fresh Pathwright and a fresh Oracle: both must
- * answer alike, throw alike, and have the same checksum in the end. Told a first seed and a number
- * of runs, it makes those instead.
+ * answer alike, throw alike, and have the same checksum in the end. Some runs go on to the 512th
+ * call. Told a first seed and a number of runs, it makes those instead.
  */
 public final class RandomRunsTest {
   private static final int CALLS = 150;
+  private static final int LIFE = 512;
   private static final Map<String, Method> OURS = faceOf(Pathwright.class);
   private static final Map<String, Method> THEIRS = faceOf(Oracle.class);
   private static final String[] WEIGHTED = weighted();
@@ -25,6 +26,7 @@ public final class RandomRunsTest {
   private final Oracle theirs = new Oracle();
   private final List<String> told = new ArrayList<>();
   private boolean isWrong;
+  private boolean isEnding;
 
   private RandomRunsTest(long seed) {
     random = new Random(seed);
@@ -85,8 +87,9 @@ public final class RandomRunsTest {
 
   private void go() {
     int style = random.nextInt(4);
+    boolean isLong = random.nextInt(5) == 0;
     setUp();
-    for (int i = 0; i < CALLS && !isWrong; i++) {
+    for (int i = 0; (i < CALLS || isLong) && !isWrong && told.size() < LIFE - 1; i++) {
       if (random.nextInt(40) == 0) {
         writeProgram(random.nextInt(2));
       }
@@ -97,6 +100,7 @@ public final class RandomRunsTest {
       }
       call(name);
     }
+    isEnding = true;
     tell("checksum");
   }
 
@@ -447,7 +451,7 @@ public final class RandomRunsTest {
   }
 
   private void tell(String name, Object... args) {
-    if (isWrong) {
+    if (isWrong || told.size() >= (isEnding ? LIFE : LIFE - 1)) {
       return;
     }
     String got = answer(OURS.get(name), ours, args);

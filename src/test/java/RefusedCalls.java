@@ -16,7 +16,6 @@ import java.util.function.Supplier;
  * thrown which is documented first, and nothing is changed.
  */
 final class RefusedCalls extends Edges {
-  private static final Document DOCUMENT = Document.read();
   private static final Map<String, Method> FACE = new HashMap<>();
   private static final Set<String> TRIED = new HashSet<>();
 

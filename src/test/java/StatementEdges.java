@@ -5,7 +5,6 @@ final class StatementEdges extends Edges {
   private static final String LEAST = "k5,1;k0,-32768;*6,0,0;k0,0;-7,0,6;-6,7,6;";
 
   static void all() {
-    tellsNoEdge(0, ": and . as told.");
     placesToHold();
     digits();
     narrowed();

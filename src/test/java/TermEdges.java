@@ -7,7 +7,7 @@ final class TermEdges extends Edges {
   private static final long BELOW = MIN - 1L;
 
   static void all() {
-    tellsNoEdge(0, "Part 2, terms.", "A term is made small.", "The reach of a term has a least");
+    isHeading("Part 2, terms.");
     kinds();
     values();
     narrowedValues();
@@ -549,10 +549,6 @@ final class TermEdges extends Edges {
   }
 
   private static void termsMade() {
-    tellsNoEdge(9, "Makes an input.", "Returns the number of the term.");
-    tellsNoEdge(10, "Makes a term of two.");
-    tellsNoEdge(11, "Makes a choice.", "Returns the number of the term.");
-    tellsNoEdge(12, "Makes a narrowed term.", "Returns the number of the term.");
     says(8, "Makes a number.");
     Pathwright x = fresh();
     eq("the least", x.value(x.number(MIN), 0), MIN);
@@ -599,14 +595,12 @@ final class TermEdges extends Edges {
         x.size(x.make('-', x.narrow('w', 16, wide), x.narrow('s', 16, wide))), 6);
     int more = x.make('*', x.make('*', x.input(0), x.number(MAX)), x.number(2));
     eq("what is narrowed ahead counts", x.size(x.make('&', more, 1)), 9);
-    tellsNoEdge(14, "Returns how many.");
     Pathwright chain = fresh();
     chain.input(0);
     for (int n = 1; n < 24; n++) {
       chain.make('+', n - 1, n - 1);
     }
     eq("the longest", chain.size(23), 24);
-    tellsNoEdge(15, "Returns the sign of a term.", "Returns the sign.");
     says(16, "Returns an end of the reach of a term.");
     eq("least", chain.reach(1, 'l'), 0);
     eq("greatest", chain.reach(1, 'g'), 6);
@@ -618,7 +612,6 @@ final class TermEdges extends Edges {
         raises("the end " + (int) e, ARGUMENT, y, () -> y.reach(0, e));
       }
     }
-    tellsNoEdge(16, "Returns the number.");
     says(17, "Returns the value of a term for a row.");
     eq("the first row", chain.value(0, 0), 0);
     eq("the last row", chain.value(0, 63), 3);
@@ -626,7 +619,6 @@ final class TermEdges extends Edges {
     raises("ahead of the first", INDEX, chain, () -> chain.value(0, -1));
     chain.fix(0, 2);
     eq("of a row that is not let", chain.value(0, 63), 3);
-    tellsNoEdge(17, "Returns the value.");
   }
 
   private static void rowsOfTerms() {

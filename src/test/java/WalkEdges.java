@@ -1,7 +1,7 @@
 /** The edges of Part 4 and of the promises 36 to 42: walks. */
 final class WalkEdges extends Edges {
   static void all() {
-    tellsNoEdge(0, "Part 4, walks.");
+    isHeading("Part 4, walks.");
     beginningAndEnd();
     steps();
     stepsOut();
@@ -411,8 +411,6 @@ final class WalkEdges extends Edges {
   }
 
   private static void endsTold() {
-    tellsNoEdge(36, "Tells how the walk of a row ends.");
-    tellsNoEdge(37, "Tells at which statement the walk of a row ends.");
     says(36, "Returns the letter of the end.");
     String[] all = {"o0;e", "a0;a", "/0,0,0;z", "k0,9;g0,0;b", "k0,1;w0;.;l",
         "d0;x0,0,0;.;x0,0,0;d", "v0;e", ";e"};
@@ -440,7 +438,6 @@ final class WalkEdges extends Edges {
   }
 
   private static void countsTold() {
-    tellsNoEdge(38, "Returns how many.");
     says(38, "Returns how many steps the walk of a row has.");
     eq("none", fresh().steps(0, 0), 0);
     Pathwright x = with(LOOPS);
@@ -450,7 +447,6 @@ final class WalkEdges extends Edges {
     Pathwright y = with("i0,0;?0;o0;.;");
     eq("of the first row", y.steps(0, 0), 2);
     eq("of the last row", y.steps(0, 63), 3);
-    tellsNoEdge(39, "Returns how many.");
     says(39, "Returns how many forks the walk of a row has, whether the program");
     eq("none", with("o0;").forks(0, 0), 0);
     Pathwright m = with("i0,0;?0;?0;k1,1;.;:;?1;.;.;");
@@ -466,9 +462,6 @@ final class WalkEdges extends Edges {
   }
 
   private static void outputsTold() {
-    tellsNoEdge(40, "Returns how many.");
-    tellsNoEdge(41, "Returns the number.");
-    tellsNoEdge(42, "Returns whether it does.");
     says(40, "Returns how many outputs the walk of a row has.");
     eq("none", fresh().outputs(0, 63), 0);
     eq("one", with("o0;").outputs(0, 0), 1);
